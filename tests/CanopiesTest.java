@@ -65,6 +65,7 @@ public final class CanopiesTest {
         }
         Due.state("a seventh", () -> loft.canopy(0));
         Due.index("a seventh of no lot", () -> loft.canopy(2));
+        Due.index("which is not there", () -> loft.opens(6));
         of(loft, 5, 1, -1, -1, 0, 0, 0);
         Due.is(0, "it has no parts", () -> loft.opens(5));
     }

@@ -163,6 +163,10 @@ public final class LotsPanelsTest {
         Due.is(189, "a row is as long as its longest", () -> loft.roll(0));
         loft.panel(0, 3, 1, WEFT);
         Due.is(189, "a shorter one beside it", () -> loft.roll(0));
+        loft.panel(1, 150, 1, WARP);
+        loft.panel(1, 50, 2, WARP);
+        loft.panel(1, 100, 3, WARP);
+        Due.is(12, "a later row is filled to 150 as well", () -> loft.roll(1));
         Due.index("roll 2", () -> loft.roll(2));
         Due.index("roll -1", () -> loft.roll(-1));
     }

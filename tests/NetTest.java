@@ -2,6 +2,7 @@
 public final class NetTest {
     public static void main(String[] args) {
         knots();
+        borders();
         loads();
         rests();
         corners();
@@ -32,6 +33,23 @@ public final class NetTest {
         Due.is(7, "stands too", () -> loft.height(35));
         Due.index("height 36", () -> loft.height(36));
         Due.index("height -1", () -> loft.height(-1));
+    }
+
+    private static void borders() {
+        BroadseamLoft loft = new BroadseamLoft();
+        loft.load(5);
+        loft.rest(1);
+        for (int row = 0; row < 6; row++) {
+            for (int column = 0; column < 6; column++) {
+                boolean isBorder = row == 0 || row == 5 || column == 0 || column == 5;
+                heights(loft, "fixed at the border at first", 6 * row + column, isBorder ? 0 : -5);
+            }
+        }
+        BroadseamLoft other = new BroadseamLoft();
+        other.knot(1, 8, true);
+        other.knot(34, 8, true);
+        Due.is(1, "two knots come up", () -> other.rest(50));
+        heights(other, "corners are fixed at first", 0, 0, 7, 2, 35, 0, 28, 2);
     }
 
     private static void loads() {

@@ -9,6 +9,7 @@ public final class PegsTest {
         shares();
         roundsOfSharing();
         latecomers();
+        oneByOne();
         greatest();
         Due.end();
     }
@@ -98,6 +99,16 @@ public final class PegsTest {
         Due.is(2, "the new one is in", loft::pegs);
         Due.is(0, "it has all", () -> loft.gust(20));
         got(loft, "the old one's stays", 1, 20);
+    }
+
+    private static void oneByOne() {
+        BroadseamLoft loft = new BroadseamLoft();
+        for (int peg = 0; peg < 8; peg++) {
+            loft.peg(840 / (8 - peg) - 1, 1);
+        }
+        Due.is(8, "each comes out in a sharing of its own", () -> loft.gust(840));
+        got(loft, "one by one", 105, 120, 140, 168, 210, 280, 420, 840);
+        Due.is(0, "none is in", loft::pegs);
     }
 
     private static void greatest() {

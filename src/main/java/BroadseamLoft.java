@@ -657,15 +657,15 @@ public final class BroadseamLoft {
             int column = knot % SIDE;
             int sum = 0;
             int count = 0;
-            int highest = Integer.MIN_VALUE;
+            int highest = 0;
             for (int side = 0; side < 4; side++) {
                 int nextRow = side == 0 ? row - 1 : side == 1 ? row + 1 : row;
                 int nextColumn = side == 2 ? column - 1 : side == 3 ? column + 1 : column;
                 if (!isOutside(nextRow, 0, SIDE - 1) && !isOutside(nextColumn, 0, SIDE - 1)) {
                     int next = heightsAhead[nextRow * SIDE + nextColumn];
+                    highest = count == 0 ? next : Math.max(highest, next);
                     sum += next;
                     count++;
-                    highest = Math.max(highest, next);
                 }
             }
             return count == 0 ? heightsAhead[knot] : Math.min(Math.floorDiv(sum, count) - load, highest);
@@ -770,22 +770,23 @@ public final class BroadseamLoft {
     }
 
     private static final class Log {
-        final byte[] canopies = new byte[MOST_CALLS];
-        final byte[] events = new byte[MOST_CALLS];
+        static final int EVENTS = 8;
+
+        final byte[] entries = new byte[MOST_CALLS];
         int count;
 
+        // A call notes one entry at most, so a full log is behind the last call that is promised.
         void note(int canopy, int event) {
-            if (count < events.length && count < canopies.length) {
-                canopies[count] = (byte) canopy;
-                events[count] = (byte) event;
+            if (count < entries.length) {
+                entries[count] = (byte) (canopy * EVENTS + event);
                 count++;
             }
         }
 
         int timesNoted(int canopy, int event) {
             int times = 0;
-            for (int entry = 0; entry < count; entry++) {
-                if (canopies[entry] == canopy && events[entry] == event) {
+            for (int number = 0; number < count; number++) {
+                if (entries[number] == canopy * EVENTS + event) {
                     times++;
                 }
             }
