@@ -61,7 +61,8 @@ public final class BroadseamLoft {
     // ---- lots, panels
 
     public int lot(int warp, int weft, int bias) throws IllegalArgumentException, IllegalStateException {
-        if (isOutside(warp, 1, MOST_STRENGTH) || isOutside(weft, 1, MOST_STRENGTH) || isOutside(bias, 1, MOST_STRENGTH)) {
+        if (isOutside(warp, 1, MOST_STRENGTH) || isOutside(weft, 1, MOST_STRENGTH)
+                || isOutside(bias, 1, MOST_STRENGTH)) {
             throw new IllegalArgumentException("a strength is out of range");
         }
         if (lotCount >= lots.length) {
