@@ -35,7 +35,8 @@ public final class RandomRunsTest {
             String method = area[below(area.length)];
             long[] told = arguments(method, scale);
             String want = Due.told(() -> plain.call(method, told));
-            Due.is(want, "run " + run + ", call " + call + ", " + line(method, told), () -> answer(loft, method, told));
+            Due.is(want, "run " + run + ", call " + call + ", " + line(method, told),
+                    () -> Face.answer(loft, method, told));
         }
     }
 
@@ -102,44 +103,6 @@ public final class RandomRunsTest {
             case "wet": return of(among(0, 5), below(5) == 0 ? 1 : 0);
             case "find": return of(among(0, 2), below(2));
             default: return of(among(0, 5), among(method.equals("ofCanopy") ? 0 : 3, 5));
-        }
-    }
-
-    private static Object answer(BroadseamLoft loft, String method, long[] a) {
-        int first = a.length > 0 ? (int) a[0] : 0;
-        int second = a.length > 1 ? (int) a[1] : 0;
-        int third = a.length > 2 ? (int) a[2] : 0;
-        switch (method) {
-            case "lot": return loft.lot(first, second, third);
-            case "sun": return loft.sun(first, second);
-            case "panel": return loft.panel(first, second, third, (int) a[3]);
-            case "strength": return loft.strength(first);
-            case "roll": return loft.roll(first);
-            case "seam": return loft.seam(first, second, third);
-            case "rip": return loft.rip(first);
-            case "bears": return loft.bears(first, second);
-            case "bearsAnew": return loft.bearsAnew(first, second);
-            case "knot": return loft.knot(first, second, third == 1);
-            case "load": return loft.load(first);
-            case "rest": return loft.rest(first);
-            case "height": return loft.height(first);
-            case "peg": return loft.peg(a[0], second);
-            case "gust": return loft.gust(a[0]);
-            case "pulled": return loft.pulled(first);
-            case "pegs": return loft.pegs();
-            case "trim": return loft.trim(first, second, third);
-            case "power": return loft.power(first);
-            case "halyard": return loft.halyard(first, second);
-            case "pass": return loft.pass(first);
-            case "canopy": return loft.canopy(first);
-            case "part": return loft.part(first, second);
-            case "opens": return loft.opens(first);
-            case "seal": return loft.seal(first, second);
-            case "use": return loft.use(first);
-            case "wet": return loft.wet(first, second == 1);
-            case "find": return loft.find(first, second == 1);
-            case "ofCanopy": return loft.ofCanopy(first, second);
-            default: return loft.lifeAnew(first, second);
         }
     }
 }

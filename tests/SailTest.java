@@ -80,7 +80,7 @@ public final class SailTest {
         Due.is(0, "no wind, no limit", () -> loft.halyard(0, 0));
         Due.is(100, "the last one", () -> loft.halyard(10, 201));
         loft.trim(90, 80, 2);
-        for (int wind = 0; wind <= 100; wind += 5) {
+        for (int wind = 0; wind <= 100; wind += 10) {
             for (int limit = 0; limit <= 100000; limit += limit < 3000 ? 150 : 24250) {
                 int blowing = wind;
                 int most = limit;
