@@ -10,7 +10,7 @@ import java.util.Set;
 
 /** The whole public face, and nothing besides it. */
 public final class FaceTest {
-    private static final String[] METHODS = {
+    static final String[] METHODS = {
         "int lot(int,int,int) IllegalArgumentException,IllegalStateException",
         "int sun(int,int) IndexOutOfBoundsException,IllegalArgumentException",
         "int panel(int,int,int,int) IndexOutOfBoundsException,IllegalArgumentException,IllegalStateException",
